@@ -1,0 +1,42 @@
+import java.util.concurrent.Callable;
+
+/** Counts answers that are not the due ones, and ends a test by them. */
+final class Check {
+    private static int right = 0;
+    private static int wrong = 0;
+
+    private Check() {
+    }
+
+    static void due(String what, Object want, Object got) {
+        if (want.equals(got)) {
+            right++;
+        } else {
+            wrong++;
+            System.out.println(what + " answered " + got + ", due is " + want);
+        }
+    }
+
+    /** The call must throw just this class, no class below it, and change nothing that can be asked for. */
+    static void refused(String what, DropMarket market, Class<? extends Exception> want, Callable<?> call) {
+        String before = Picture.of(market);
+        due(what, "throws " + want.getSimpleName(), answer(call));
+        due(what + " leaves the state as it was", before, Picture.of(market));
+    }
+
+    /** The answer as a text, or the simple name of the exception behind "throws". */
+    static String answer(Callable<?> call) {
+        try {
+            return String.valueOf(call.call());
+        } catch (Exception e) {
+            return "throws " + e.getClass().getSimpleName();
+        }
+    }
+
+    static void end(String test) {
+        System.out.println(test + ": " + right + " answers as due, " + wrong + " not");
+        if (wrong > 0) {
+            System.exit(1);
+        }
+    }
+}

@@ -1,0 +1,95 @@
+import java.util.concurrent.Callable;
+
+/** All that can be asked of a market without changing it, as one text. */
+final class Picture {
+    private final StringBuilder text = new StringBuilder();
+
+    private Picture() {
+    }
+
+    static String of(DropMarket market) {
+        Picture picture = new Picture();
+        picture.addAccounts(market);
+        picture.addOrders(market);
+        picture.addBook(market);
+        picture.addTrades(market);
+        picture.addLine(market);
+        return picture.text.toString();
+    }
+
+    private void add(String name, Callable<?> call) {
+        text.append(name).append('=').append(Check.answer(call)).append(' ');
+    }
+
+    private void addAccounts(DropMarket market) {
+        add("stallCount", market::stallCount);
+        for (int i = 0; i < market.stallCount(); i++) {
+            int stall = i;
+            add("moneyOf", () -> market.moneyOf(stall));
+            add("dropsOf", () -> market.dropsOf(stall));
+            add("freeMoneyOf", () -> market.freeMoneyOf(stall));
+            add("freeDropsOf", () -> market.freeDropsOf(stall));
+            add("stallByMoney", () -> market.stallByMoney(stall));
+        }
+        add("totalMoney", market::totalMoney);
+        add("totalDrops", market::totalDrops);
+    }
+
+    private void addOrders(DropMarket market) {
+        add("orderCount", market::orderCount);
+        for (int i = 0; i < market.orderCount(); i++) {
+            int order = market.orderAt(i);
+            add("orderAt", () -> order);
+            add("stallOf", () -> market.stallOf(order));
+            add("isBuying", () -> market.isBuying(order));
+            add("priceOf", () -> market.priceOf(order));
+            add("quantityOf", () -> market.quantityOf(order));
+            add("minutesLeft", () -> market.minutesLeft(order));
+        }
+    }
+
+    private void addBook(DropMarket market) {
+        add("bestBuy", market::bestBuy);
+        add("bestSell", market::bestSell);
+        add("spread", market::spread);
+        add("spreadBySums", market::spreadBySums);
+        add("buyingShare", market::buyingShare);
+        add("poolPrice", market::poolPrice);
+        add("poolPriceBySums", market::poolPriceBySums);
+        add("isConsistent", market::isConsistent);
+        for (int i = 1; i <= 99; i++) {
+            int price = i;
+            add("buyingAt", () -> market.buyingAt(price));
+            add("sellingAt", () -> market.sellingAt(price));
+            add("volumeAt", () -> market.volumeAt(price));
+        }
+    }
+
+    private void addTrades(DropMarket market) {
+        add("lastPrice", market::lastPrice);
+        add("tradeCount", market::tradeCount);
+        add("tradedQuantity", market::tradedQuantity);
+        add("turnover", market::turnover);
+        add("meanPrice", market::meanPrice);
+        add("isPoolOpen", market::isPoolOpen);
+        add("time", market::time);
+    }
+
+    private void addLine(DropMarket market) {
+        text.append("line=").append(line(market)).append(' ');
+        add("errorPosition", market::errorPosition);
+        add("failedCommand", market::failedCommand);
+    }
+
+    static String line(DropMarket market) {
+        StringBuilder line = new StringBuilder();
+        for (int i = 0; i < 100; i++) {
+            int index = i;
+            String sign = Check.answer(() -> market.lineAt(index));
+            if (!sign.equals("throws IndexOutOfBoundsException")) {
+                line.append(sign);
+            }
+        }
+        return line.toString();
+    }
+}
