@@ -102,7 +102,7 @@ public final class StallsTest {
         DropMarket market = new DropMarket();
         Class<? extends Exception> noRank = java.util.NoSuchElementException.class;
         Check.refused("P20 without stalls", market, noRank, () -> market.stallByMoney(0));
-        int[] money = {300, 500, 300, 900, 300};
+        int[] money = {300, 301, 300, 900, 300};
         for (int amount : money) {
             market.addStall(amount, 10);
         }

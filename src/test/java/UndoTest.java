@@ -1,0 +1,194 @@
+import java.util.ArrayList;
+import java.util.List;
+
+/** Promises 53 to 55: undo and snapshots. */
+public final class UndoTest {
+    private static final Class<IllegalStateException> STATE = IllegalStateException.class;
+
+    public static void main(String[] args) {
+        undoOfEachModification();
+        eightModifications();
+        undoAndGoOn();
+        onlyModificationsCount();
+        snapshots();
+        snapshotIsKept();
+        wholeStateComesBack();
+        Check.end("UndoTest");
+    }
+
+    private static DropMarket rich() {
+        DropMarket market = new DropMarket();
+        market.addStall(9999, 999);
+        market.addStall(9999, 999);
+        return market;
+    }
+
+    private static void type(DropMarket market, String text) {
+        for (char sign : text.toCharArray()) {
+            market.type(sign);
+        }
+    }
+
+    private static List<Runnable> modifications(DropMarket market) {
+        List<Runnable> all = new ArrayList<>();
+        all.add(() -> market.addStall(7, 8));
+        all.add(() -> market.placeBuy(0, 10, 5));
+        all.add(() -> market.placeSell(1, 9, 3));
+        all.add(() -> market.placeBuyFor(1, 12, 2, 2));
+        all.add(() -> market.placeSellFor(0, 30, 6, 9));
+        all.add(() -> market.takeBuy(1, 30, 1));
+        all.add(() -> market.takeSell(1, 12, 1));
+        all.add(() -> market.takeSell(1, 99, 1));
+        all.add(() -> market.cancel(0));
+        all.add(() -> market.pass(1));
+        all.add(() -> market.openPool());
+        all.add(() -> market.placeBuy(0, 40, 20));
+        all.add(() -> market.pass(1));
+        all.add(() -> market.closePool());
+        all.add(() -> {
+            type(market, "open;buy 0 10 9;sell 1 10 8;close;pass 1");
+            market.execute();
+        });
+        return all;
+    }
+
+    private static void undoOfEachModification() {
+        DropMarket market = rich();
+        Check.due("P53 two stalls", 1, market.undo());
+        Check.due("P53 one stall", 0, market.undo());
+        Check.refused("P53 none is left", market, STATE, market::undo);
+        market.addStall(9999, 999);
+        market.addStall(9999, 999);
+        int done = 2;
+        for (Runnable modification : modifications(market)) {
+            String before = Picture.of(market);
+            modification.run();
+            String after = Picture.of(market);
+            Check.due("P53 undo after " + done, Math.min(done, 7), market.undo());
+            Check.due("P53 state after " + done, before, Picture.of(market));
+            modification.run();
+            Check.due("P53 the same once more after " + done, after, Picture.of(market));
+            done++;
+        }
+    }
+
+    private static void eightModifications() {
+        DropMarket market = rich();
+        List<String> pictures = new ArrayList<>();
+        for (Runnable modification : modifications(market)) {
+            pictures.add(Picture.of(market));
+            modification.run();
+        }
+        for (int left = 7; left >= 0; left--) {
+            Check.due("P53 undo", left, market.undo());
+            Check.due("P53 state", pictures.get(pictures.size() - 8 + left), Picture.of(market));
+        }
+        Check.refused("P53 a ninth", market, STATE, market::undo);
+    }
+
+    private static void undoAndGoOn() {
+        DropMarket market = rich();
+        for (int i = 0; i < 10; i++) {
+            Check.due("number", i, market.placeBuy(0, 1 + i, 1));
+        }
+        for (int i = 0; i < 5; i++) {
+            market.undo();
+        }
+        Check.due("P53 the number comes back", 5, market.placeSell(0, 50, 1));
+        Check.due("P53 the new one is undone", 3, market.undo());
+        Check.due("P53 five orders stay", 5, market.orderCount());
+        for (int left = 2; left >= 0; left--) {
+            Check.due("P53 the older ones", left, market.undo());
+        }
+        Check.due("P53 two orders stay", 2, market.orderCount());
+        Check.refused("P53 none is left", market, STATE, market::undo);
+        for (int round = 0; round < 20; round++) {
+            market.pass(1);
+        }
+        for (int left = 7; left >= 0; left--) {
+            Check.due("P53 eight again", left, market.undo());
+        }
+        Check.due("P53 twelve minutes stay", 12, market.time());
+    }
+
+    private static void onlyModificationsCount() {
+        DropMarket market = rich();
+        market.placeBuy(0, 10, 5);
+        Check.answer(() -> market.addStall(-1, 0));
+        Check.answer(() -> market.placeBuy(0, 0, 0));
+        Check.answer(() -> market.placeSellFor(0, 1, 1, 0));
+        Check.answer(() -> market.takeSell(5, 1, 1));
+        Check.answer(() -> market.cancel(7));
+        Check.answer(() -> market.pass(0));
+        Check.answer(market::closePool);
+        Check.answer(market::restore);
+        Check.answer(market::execute);
+        type(market, "pass 1;close");
+        Check.answer(market::execute);
+        market.writeBook();
+        market.save();
+        Picture.of(market);
+        Check.due("P53 the order is undone", 2, market.undo());
+        Check.due("P53 no order", 0, market.orderCount());
+        Check.due("P53 a take without trade counts", 0, market.takeBuy(0, 1, 1));
+        Check.due("P53 it is undone", 2, market.undo());
+        Check.due("P53 its number comes back", 0, market.placeBuy(0, 1, 1));
+    }
+
+    private static void snapshots() {
+        DropMarket market = rich();
+        Check.refused("P55 no snapshot", market, STATE, market::restore);
+        market.placeBuy(0, 10, 5);
+        market.placeSell(1, 20, 5);
+        Check.due("P54 save", 2, market.save());
+        Check.due("P53 save is no modification", 3, market.undo());
+        Check.due("P53 nothing of the snapshot", 1, market.orderCount());
+        Check.due("P55 restore", 2, market.restore());
+        Check.refused("P55 nothing can be undone", market, STATE, market::undo);
+        Check.due("P55 the number comes back", 2, market.placeBuy(0, 1, 1));
+        Check.due("P53 undone after a restore", 0, market.undo());
+        Check.refused("P53 not beyond the restore", market, STATE, market::undo);
+        Check.due("P55 the orders stay", 2, market.orderCount());
+    }
+
+    private static void snapshotIsKept() {
+        DropMarket market = new DropMarket();
+        Check.due("P54 of a new object", 0, market.save());
+        market.addStall(5, 5);
+        market.pass(7);
+        Check.due("P55 of a new object", 0, market.restore());
+        Check.due("P55 no stall", 0, market.stallCount());
+        Check.due("P55 no money", 0, market.totalMoney());
+        market.addStall(6, 6);
+        market.placeBuy(0, 2, 3);
+        Check.due("P55 once more", 0, market.restore());
+        Check.due("P55 time", 0, market.time());
+        market.addStall(9, 9);
+        market.placeSell(0, 2, 3);
+        Check.due("P54 replaces the snapshot", 1, market.save());
+        market.cancel(0);
+        Check.due("P55 the later snapshot", 1, market.restore());
+        Check.due("P55 its order", 3, market.quantityOf(0));
+        market.takeBuy(0, 2, 1);
+        Check.due("P55 the snapshot is no part of what changes", 1, market.restore());
+        Check.due("P55 its order", 3, market.quantityOf(0));
+    }
+
+    private static void wholeStateComesBack() {
+        DropMarket market = rich();
+        List<String> pictures = new ArrayList<>();
+        List<Runnable> all = modifications(market);
+        for (Runnable modification : all) {
+            market.save();
+            String saved = Picture.of(market);
+            modification.run();
+            pictures.add(Picture.of(market));
+            market.pass(60);
+            market.addStall(1, 1);
+            market.restore();
+            Check.due("P55 the state comes back", saved, Picture.of(market));
+            modification.run();
+            Check.due("P55 and goes on", pictures.get(pictures.size() - 1), Picture.of(market));
+        }
+    }
+}
