@@ -4,8 +4,18 @@ import java.util.concurrent.Callable;
 final class Check {
     private static int right = 0;
     private static int wrong = 0;
+    private static String topic = "";
 
     private Check() {
+    }
+
+    /** What the next checks are about; it stands before what they print. */
+    static void about(String newTopic) {
+        topic = newTopic.isEmpty() ? "" : newTopic + ": ";
+    }
+
+    static int count() {
+        return right + wrong;
     }
 
     static void due(String what, Object want, Object got) {
@@ -13,15 +23,19 @@ final class Check {
             right++;
         } else {
             wrong++;
-            System.out.println(what + " answered " + got + ", due is " + want);
+            System.out.println(topic + what + " answered " + got + ", due is " + want);
         }
     }
 
     /** The call must throw just this class, no class below it, and change nothing that can be asked for. */
     static void refused(String what, DropMarket market, Class<? extends Exception> want, Callable<?> call) {
         String before = Picture.of(market);
-        due(what, "throws " + want.getSimpleName(), answer(call));
+        throwing(what, want, call);
         due(what + " leaves the state as it was", before, Picture.of(market));
+    }
+
+    static void throwing(String what, Class<? extends Exception> want, Callable<?> call) {
+        due(what, "throws " + want.getSimpleName(), answer(call));
     }
 
     /** The answer as a text, or the simple name of the exception behind "throws". */

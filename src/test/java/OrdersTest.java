@@ -8,43 +8,6 @@ public final class OrdersTest {
     private static final Class<UnsupportedOperationException> SHORT = UnsupportedOperationException.class;
     private static final Class<NoSuchElementException> NO_ORDER = NoSuchElementException.class;
 
-    /** The six ways to give an order, so that what they share is asked of each. */
-    private enum Way {
-        BUY("P3 placeBuy"), SELL("P4 placeSell"), BUY_FOR("P5 placeBuyFor"), SELL_FOR("P6 placeSellFor"),
-        TAKE_BUY("P7 takeBuy"), TAKE_SELL("P8 takeSell");
-
-        final String name;
-
-        Way(String name) {
-            this.name = name;
-        }
-
-        int give(DropMarket market, int stall, int price, int quantity) {
-            switch (this) {
-                case BUY:
-                    return market.placeBuy(stall, price, quantity);
-                case SELL:
-                    return market.placeSell(stall, price, quantity);
-                case BUY_FOR:
-                    return market.placeBuyFor(stall, price, quantity, 60);
-                case SELL_FOR:
-                    return market.placeSellFor(stall, price, quantity, 1);
-                case TAKE_BUY:
-                    return market.takeBuy(stall, price, quantity);
-                default:
-                    return market.takeSell(stall, price, quantity);
-            }
-        }
-
-        boolean buys() {
-            return this == BUY || this == BUY_FOR || this == TAKE_BUY;
-        }
-
-        boolean takes() {
-            return this == TAKE_BUY || this == TAKE_SELL;
-        }
-    }
-
     public static void main(String[] args) {
         for (Way way : Way.values()) {
             wrongNumbers(way);
@@ -78,17 +41,17 @@ public final class OrdersTest {
     private static void wrongNumbers(Way way) {
         DropMarket market = rich();
         for (int stall : new int[] {-1, 3, 6, Integer.MIN_VALUE, Integer.MAX_VALUE}) {
-            Check.refused(way.name + " stall " + stall, market, NO_STALL, () -> way.give(market, stall, 1, 1));
-            Check.refused(way.name + " stall before range", market, NO_STALL, () -> way.give(market, stall, 0, 0));
+            Check.refused(way.label + " stall " + stall, market, NO_STALL, () -> way.give(market, stall, 1, 1));
+            Check.refused(way.label + " stall before range", market, NO_STALL, () -> way.give(market, stall, 0, 0));
         }
         for (int price : new int[] {0, -1, 100, Integer.MIN_VALUE, Integer.MAX_VALUE}) {
-            Check.refused(way.name + " price " + price, market, RANGE, () -> way.give(market, 0, price, 1));
+            Check.refused(way.label + " price " + price, market, RANGE, () -> way.give(market, 0, price, 1));
         }
         for (int quantity : new int[] {0, -1, 51, Integer.MIN_VALUE, Integer.MAX_VALUE}) {
-            Check.refused(way.name + " quantity " + quantity, market, RANGE, () -> way.give(market, 0, 1, quantity));
+            Check.refused(way.label + " quantity " + quantity, market, RANGE, () -> way.give(market, 0, 1, quantity));
         }
         DropMarket empty = new DropMarket();
-        Check.refused(way.name + " without stalls", empty, NO_STALL, () -> way.give(empty, 0, 1, 1));
+        Check.refused(way.label + " without stalls", empty, NO_STALL, () -> way.give(empty, 0, 1, 1));
     }
 
     private static void edgesOfNumbers(Way way) {
@@ -96,7 +59,7 @@ public final class OrdersTest {
         int[][] edges = {{1, 1}, {99, 50}, {1, 50}, {99, 1}};
         for (int i = 0; i < edges.length; i++) {
             int answer = way.give(market, 0, edges[i][0], edges[i][1]);
-            Check.due(way.name + " edge " + i, way.takes() ? 0 : i, answer);
+            Check.due(way.label + " edge " + i, way.takes() ? 0 : i, answer);
         }
     }
 
@@ -104,15 +67,15 @@ public final class OrdersTest {
         DropMarket market = new DropMarket();
         market.addStall(129, 12);
         market.addStall(130, 13);
-        Check.refused(way.name + " not enough", market, SHORT, () -> way.give(market, 0, 10, 13));
-        Check.due(way.name + " just enough", 0, way.give(market, 1, 10, 13));
+        Check.refused(way.label + " not enough", market, SHORT, () -> way.give(market, 0, 10, 13));
+        Check.due(way.label + " just enough", 0, way.give(market, 1, 10, 13));
         if (!way.takes()) {
-            Check.refused(way.name + " all is bound", market, SHORT, () -> way.give(market, 1, 1, 1));
-            Check.due(way.name + " frees again", 13, market.cancel(0));
+            Check.refused(way.label + " all is bound", market, SHORT, () -> way.give(market, 1, 1, 1));
+            Check.due(way.label + " frees again", 13, market.cancel(0));
         }
         market.addStall(0, 0);
-        Check.refused(way.name + " nothing at all", market, SHORT, () -> way.give(market, 2, 1, 1));
-        Check.refused(way.name + " range before enough", market, RANGE, () -> way.give(market, 2, 99, 51));
+        Check.refused(way.label + " nothing at all", market, SHORT, () -> way.give(market, 2, 1, 1));
+        Check.refused(way.label + " range before enough", market, RANGE, () -> way.give(market, 2, 99, 51));
     }
 
     private static void fillBook(DropMarket market) {
@@ -128,18 +91,18 @@ public final class OrdersTest {
         market.addStall(0, 0);
         int price = way.buys() ? 30 : 19;
         if (way.takes()) {
-            Check.due(way.name + " with 20 orders", 1, way.give(market, 2, price, 1));
-            Check.due(way.name + " with 19 orders", 19, market.orderCount());
+            Check.due(way.label + " with 20 orders", 1, way.give(market, 2, price, 1));
+            Check.due(way.label + " with 19 orders", 19, market.orderCount());
             return;
         }
-        Check.refused(way.name + " a 21st that would trade", market, STATE, () -> way.give(market, 2, price, 1));
-        Check.refused(way.name + " a 21st", market, STATE, () -> way.give(market, 2, 25, 1));
-        Check.refused(way.name + " full before short", market, STATE, () -> way.give(market, 3, 25, 1));
-        Check.refused(way.name + " range before full", market, RANGE, () -> way.give(market, 3, 100, 1));
-        Check.refused(way.name + " stall before full", market, NO_STALL, () -> way.give(market, 4, 100, 1));
+        Check.refused(way.label + " a 21st that would trade", market, STATE, () -> way.give(market, 2, price, 1));
+        Check.refused(way.label + " a 21st", market, STATE, () -> way.give(market, 2, 25, 1));
+        Check.refused(way.label + " full before short", market, STATE, () -> way.give(market, 3, 25, 1));
+        Check.refused(way.label + " range before full", market, RANGE, () -> way.give(market, 3, 100, 1));
+        Check.refused(way.label + " stall before full", market, NO_STALL, () -> way.give(market, 4, 100, 1));
         market.cancel(0);
-        Check.due(way.name + " the 20th", 20, way.give(market, 2, 25, 1));
-        Check.due(way.name + " makes 20 orders", 20, market.orderCount());
+        Check.due(way.label + " the 20th", 20, way.give(market, 2, 25, 1));
+        Check.due(way.label + " makes 20 orders", 20, market.orderCount());
     }
 
     private static void openPool(Way way) {
@@ -150,36 +113,36 @@ public final class OrdersTest {
         market.openPool();
         int price = way.buys() ? 99 : 1;
         if (way.takes()) {
-            Check.refused(way.name + " while the pool is open", market, STATE, () -> way.give(market, 2, price, 1));
-            Check.refused(way.name + " open before short", market, STATE, () -> way.give(market, 3, price, 1));
-            Check.refused(way.name + " range before open", market, RANGE, () -> way.give(market, 3, 0, 1));
-            Check.refused(way.name + " stall before open", market, NO_STALL, () -> way.give(market, 4, 0, 1));
+            Check.refused(way.label + " while the pool is open", market, STATE, () -> way.give(market, 2, price, 1));
+            Check.refused(way.label + " open before short", market, STATE, () -> way.give(market, 3, price, 1));
+            Check.refused(way.label + " range before open", market, RANGE, () -> way.give(market, 3, 0, 1));
+            Check.refused(way.label + " stall before open", market, NO_STALL, () -> way.give(market, 4, 0, 1));
             return;
         }
-        Check.due(way.name + " while the pool is open", 2, way.give(market, 2, price, 5));
-        Check.due(way.name + " does not trade in the pool", 0, market.tradeCount());
-        Check.due(way.name + " enters the book", 3, market.orderCount());
-        Check.due(way.name + " keeps its quantity", 5, market.quantityOf(2));
-        Check.refused(way.name + " short in the pool", market, SHORT, () -> way.give(market, 3, 1, 1));
+        Check.due(way.label + " while the pool is open", 2, way.give(market, 2, price, 5));
+        Check.due(way.label + " does not trade in the pool", 0, market.tradeCount());
+        Check.due(way.label + " enters the book", 3, market.orderCount());
+        Check.due(way.label + " keeps its quantity", 5, market.quantityOf(2));
+        Check.refused(way.label + " short in the pool", market, SHORT, () -> way.give(market, 3, 1, 1));
     }
 
     private static void numbersOfOrders(Way way) {
         DropMarket market = rich();
         Check.due("first number", 0, market.placeBuy(0, 5, 1));
         way.give(market, 2, 50, 2);
-        Check.due(way.name + " takes a number", 2, market.placeSell(0, 60, 1));
+        Check.due(way.label + " takes a number", 2, market.placeSell(0, 60, 1));
         market.cancel(2);
         Check.due("no number is given again", 3, market.placeSell(0, 60, 1));
         if (!way.takes()) {
-            Check.due(way.name + " stall", 2, market.stallOf(1));
-            Check.due(way.name + " side", way.buys(), market.isBuying(1));
-            Check.due(way.name + " price", 50, market.priceOf(1));
-            Check.due(way.name + " quantity", 2, market.quantityOf(1));
+            Check.due(way.label + " stall", 2, market.stallOf(1));
+            Check.due(way.label + " side", way.buys(), market.isBuying(1));
+            Check.due(way.label + " price", 50, market.priceOf(1));
+            Check.due(way.label + " quantity", 2, market.quantityOf(1));
             boolean lasts = way == Way.BUY || way == Way.SELL;
             String minutes = lasts ? "throws IllegalStateException" : way == Way.BUY_FOR ? "60" : "1";
-            Check.due(way.name + " minutes", minutes, Check.answer(() -> market.minutesLeft(1)));
+            Check.due(way.label + " minutes", minutes, Check.answer(() -> market.minutesLeft(1)));
         } else {
-            Check.due(way.name + " leaves nothing in the book", 2, market.orderCount());
+            Check.due(way.label + " leaves nothing in the book", 2, market.orderCount());
         }
     }
 

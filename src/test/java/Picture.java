@@ -81,15 +81,18 @@ final class Picture {
         add("failedCommand", market::failedCommand);
     }
 
+    /** Up to the first index that is refused, as each call is one of the 512 that an object is promised for. */
     static String line(DropMarket market) {
         StringBuilder line = new StringBuilder();
-        for (int i = 0; i < 100; i++) {
-            int index = i;
-            String sign = Check.answer(() -> market.lineAt(index));
-            if (!sign.equals("throws IndexOutOfBoundsException")) {
-                line.append(sign);
-            }
+        String sign = signAt(market, 0);
+        while (sign.length() == 1) {
+            line.append(sign);
+            sign = signAt(market, line.length());
         }
         return line.toString();
+    }
+
+    private static String signAt(DropMarket market, int index) {
+        return Check.answer(() -> market.lineAt(index));
     }
 }

@@ -140,7 +140,8 @@ public final class RandomRunsTest {
             int at = random.nextInt(text.length());
             text.replace(at, at + random.nextInt(2), "" + " ;019sx".charAt(random.nextInt(7)));
         }
-        if (log.size() + text.length() >= CALLS) {
+        int executions = 2;
+        if (log.size() + text.length() + executions > CALLS) {
             return;
         }
         if (random.nextInt(4) > 0) {
