@@ -35,12 +35,14 @@ public final class BookTest {
     private static void emptyBook() {
         DropMarket market = new DropMarket();
         Check.due("P21 orderCount", 0, market.orderCount());
-        Check.refused("P22 orderAt", market, IndexOutOfBoundsException.class, () -> market.orderAt(0));
-        Check.refused("P28 bestBuy", market, NONE, market::bestBuy);
-        Check.refused("P29 bestSell", market, NONE, market::bestSell);
-        Check.refused("P30 spread", market, NONE, market::spread);
-        Check.refused("P31 spreadBySums", market, NONE, market::spreadBySums);
-        Check.refused("P39 buyingShare", market, ArithmeticException.class, market::buyingShare);
+        Check.unchanged("an empty book", market, () -> {
+            Check.throwing("P22 orderAt", IndexOutOfBoundsException.class, () -> market.orderAt(0));
+            Check.throwing("P28 bestBuy", NONE, market::bestBuy);
+            Check.throwing("P29 bestSell", NONE, market::bestSell);
+            Check.throwing("P30 spread", NONE, market::spread);
+            Check.throwing("P31 spreadBySums", NONE, market::spreadBySums);
+            Check.throwing("P39 buyingShare", ArithmeticException.class, market::buyingShare);
+        });
         Check.due("P32 buyingAt", 0, market.buyingAt(1));
         Check.due("P33 sellingAt", 0, market.sellingAt(99));
     }
@@ -52,10 +54,12 @@ public final class BookTest {
         for (int position = 0; position < numbers.length; position++) {
             Check.due("P22 orderAt " + position, numbers[position], market.orderAt(position));
         }
-        for (int position : new int[] {-1, 5, 19, 20, Integer.MIN_VALUE, Integer.MAX_VALUE}) {
-            Check.refused("P22 orderAt " + position, market, IndexOutOfBoundsException.class,
-                    () -> market.orderAt(position));
-        }
+        Check.unchanged("P22 orderAt", market, () -> {
+            for (int position : new int[] {-1, 5, 19, 20, Integer.MIN_VALUE, Integer.MAX_VALUE}) {
+                Check.throwing("P22 orderAt " + position, IndexOutOfBoundsException.class,
+                        () -> market.orderAt(position));
+            }
+        });
     }
 
     private static void oneOrder() {
@@ -69,26 +73,28 @@ public final class BookTest {
         }
         Check.due("P27 minutesLeft", 9, market.minutesLeft(3));
         Check.due("P27 minutesLeft", 11, market.minutesLeft(4));
-        for (int order : new int[] {0, 2, 5}) {
-            Check.refused("P27 lasts", market, IllegalStateException.class, () -> market.minutesLeft(order));
-        }
+        Check.unchanged("P27 lasts", market, () -> {
+            for (int order : new int[] {0, 2, 5}) {
+                Check.throwing("P27 lasts", IllegalStateException.class, () -> market.minutesLeft(order));
+            }
+        });
     }
 
     private static void ordersThatAreNotThere() {
-        DropMarket market = market();
-        for (int order : NO_ORDERS) {
-            Check.refused("P23 stallOf " + order, market, NONE, () -> market.stallOf(order));
-            Check.refused("P24 isBuying " + order, market, NONE, () -> market.isBuying(order));
-            Check.refused("P25 priceOf " + order, market, NONE, () -> market.priceOf(order));
-            Check.refused("P26 quantityOf " + order, market, NONE, () -> market.quantityOf(order));
-            Check.refused("P27 minutesLeft " + order, market, NONE, () -> market.minutesLeft(order));
-        }
-        DropMarket empty = new DropMarket();
-        Check.refused("P23 stallOf 0", empty, NONE, () -> empty.stallOf(0));
-        Check.refused("P24 isBuying 0", empty, NONE, () -> empty.isBuying(0));
-        Check.refused("P25 priceOf 0", empty, NONE, () -> empty.priceOf(0));
-        Check.refused("P26 quantityOf 0", empty, NONE, () -> empty.quantityOf(0));
-        Check.refused("P27 minutesLeft 0", empty, NONE, () -> empty.minutesLeft(0));
+        noOrder(market(), NO_ORDERS);
+        noOrder(new DropMarket(), new int[] {0});
+    }
+
+    private static void noOrder(DropMarket market, int[] orders) {
+        Check.unchanged("P23 to P27", market, () -> {
+            for (int order : orders) {
+                Check.throwing("P23 stallOf " + order, NONE, () -> market.stallOf(order));
+                Check.throwing("P24 isBuying " + order, NONE, () -> market.isBuying(order));
+                Check.throwing("P25 priceOf " + order, NONE, () -> market.priceOf(order));
+                Check.throwing("P26 quantityOf " + order, NONE, () -> market.quantityOf(order));
+                Check.throwing("P27 minutesLeft " + order, NONE, () -> market.minutesLeft(order));
+            }
+        });
     }
 
     private static void bestOfEqualPrices() {
@@ -127,14 +133,19 @@ public final class BookTest {
         Check.due("P31 the least", -98, market.spreadBySums());
         market.closePool();
         market.placeBuy(0, 1, 1);
-        Check.refused("P30 one side", market, NONE, market::spread);
-        Check.refused("P31 one side", market, NONE, market::spreadBySums);
+        noSpread("one side", market);
         market.placeSell(0, 99, 1);
         Check.due("P30 the greatest", 98, market.spread());
         Check.due("P31 the greatest", 98, market.spreadBySums());
         market.cancel(market.bestBuy());
-        Check.refused("P30 the other side", market, NONE, market::spread);
-        Check.refused("P31 the other side", market, NONE, market::spreadBySums);
+        noSpread("the other side", market);
+    }
+
+    private static void noSpread(String what, DropMarket market) {
+        Check.unchanged(what, market, () -> {
+            Check.throwing("P30 " + what, NONE, market::spread);
+            Check.throwing("P31 " + what, NONE, market::spreadBySums);
+        });
     }
 
     private static void quantitiesAtPrices() {
@@ -149,10 +160,12 @@ public final class BookTest {
         Check.due("P33 of a buying one", 0, market.sellingAt(30));
         market.takeBuy(1, 60, 3);
         Check.due("P33 of what is left", 25, market.sellingAt(60));
-        for (int price : new int[] {0, -1, 100, Integer.MIN_VALUE, Integer.MAX_VALUE}) {
-            Check.refused("P32 at " + price, market, IllegalArgumentException.class, () -> market.buyingAt(price));
-            Check.refused("P33 at " + price, market, IllegalArgumentException.class, () -> market.sellingAt(price));
-        }
+        Check.unchanged("P32 and P33", market, () -> {
+            for (int price : new int[] {0, -1, 100, Integer.MIN_VALUE, Integer.MAX_VALUE}) {
+                Check.throwing("P32 at " + price, IllegalArgumentException.class, () -> market.buyingAt(price));
+                Check.throwing("P33 at " + price, IllegalArgumentException.class, () -> market.sellingAt(price));
+            }
+        });
         DropMarket edges = new DropMarket();
         edges.addStall(9999, 999);
         edges.placeBuy(0, 1, 50);

@@ -27,13 +27,18 @@ final class Check {
         }
     }
 
-    /** The call must throw just this class, no class below it, and change nothing that can be asked for. */
     static void refused(String what, DropMarket market, Class<? extends Exception> want, Callable<?> call) {
+        unchanged(what, market, () -> throwing(what, want, call));
+    }
+
+    /** The calls must change nothing that can be asked for; many of them share the calls that two pictures take. */
+    static void unchanged(String what, DropMarket market, Runnable calls) {
         String before = Picture.of(market);
-        throwing(what, want, call);
+        calls.run();
         due(what + " leaves the state as it was", before, Picture.of(market));
     }
 
+    /** The call must throw just this class, no class below it. */
     static void throwing(String what, Class<? extends Exception> want, Callable<?> call) {
         due(what, "throws " + want.getSimpleName(), answer(call));
     }

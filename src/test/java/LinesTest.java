@@ -24,15 +24,17 @@ public final class LinesTest {
     private static void written(String what, DropMarket market, int length, String line) {
         Check.due(what + " length", line.length(), length);
         Check.due(what, line, Picture.line(market));
-        Check.refused(what + " ends", market, NO_CHARACTER, () -> market.lineAt(line.length()));
-        Check.refused(what + " begins", market, NO_CHARACTER, () -> market.lineAt(-1));
+        Check.throwing(what + " ends", NO_CHARACTER, () -> market.lineAt(line.length()));
+        Check.throwing(what + " begins", NO_CHARACTER, () -> market.lineAt(-1));
     }
 
     private static void emptyLine() {
         DropMarket market = new DropMarket();
-        for (int index : new int[] {0, 1, -1, Integer.MIN_VALUE, Integer.MAX_VALUE}) {
-            Check.refused("P47 empty at first", market, NO_CHARACTER, () -> market.lineAt(index));
-        }
+        Check.unchanged("P47 empty at first", market, () -> {
+            for (int index : new int[] {0, 1, -1, Integer.MIN_VALUE, Integer.MAX_VALUE}) {
+                Check.throwing("P47 empty at first", NO_CHARACTER, () -> market.lineAt(index));
+            }
+        });
         Check.refused("P45 no order", market, NoSuchElementException.class, () -> market.writeOrder(0));
         written("P46 no orders", market, market.writeBook(), "-/-");
         Check.due("P47 lineAt", '/', market.lineAt(1));
@@ -56,10 +58,11 @@ public final class LinesTest {
         }
         market.placeSell(0, 40, 10);
         written("P45 a number of three digits", market, market.writeOrder(105), "105s10x40");
-        for (int order : new int[] {0, 16, 106, -1, Integer.MIN_VALUE, Integer.MAX_VALUE}) {
-            Check.refused("P45 order " + order, market, NoSuchElementException.class,
-                    () -> market.writeOrder(order));
-        }
+        Check.unchanged("P45 writeOrder", market, () -> {
+            for (int order : new int[] {0, 16, 106, -1, Integer.MIN_VALUE, Integer.MAX_VALUE}) {
+                Check.throwing("P45 order " + order, NoSuchElementException.class, () -> market.writeOrder(order));
+            }
+        });
     }
 
     private static void linesOfBooks() {

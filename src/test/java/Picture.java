@@ -1,6 +1,9 @@
 import java.util.concurrent.Callable;
 
-/** All that can be asked of a market without changing it, as one text. */
+/**
+ * What can be asked of a market without changing it, as one text. Sums at single prices are left out: they follow from
+ * the orders, and each call is one of the 512 that an object is promised for.
+ */
 final class Picture {
     private final StringBuilder text = new StringBuilder();
 
@@ -22,8 +25,8 @@ final class Picture {
     }
 
     private void addAccounts(DropMarket market) {
-        add("stallCount", market::stallCount);
-        for (int i = 0; i < market.stallCount(); i++) {
+        int stalls = market.stallCount();
+        for (int i = 0; i < stalls; i++) {
             int stall = i;
             add("moneyOf", () -> market.moneyOf(stall));
             add("dropsOf", () -> market.dropsOf(stall));
@@ -36,10 +39,10 @@ final class Picture {
     }
 
     private void addOrders(DropMarket market) {
-        add("orderCount", market::orderCount);
-        for (int i = 0; i < market.orderCount(); i++) {
-            int order = market.orderAt(i);
-            add("orderAt", () -> order);
+        int orders = market.orderCount();
+        for (int position = 0; position < orders; position++) {
+            int order = market.orderAt(position);
+            text.append("order=").append(order).append(' ');
             add("stallOf", () -> market.stallOf(order));
             add("isBuying", () -> market.isBuying(order));
             add("priceOf", () -> market.priceOf(order));
@@ -57,12 +60,6 @@ final class Picture {
         add("poolPrice", market::poolPrice);
         add("poolPriceBySums", market::poolPriceBySums);
         add("isConsistent", market::isConsistent);
-        for (int i = 1; i <= 99; i++) {
-            int price = i;
-            add("buyingAt", () -> market.buyingAt(price));
-            add("sellingAt", () -> market.sellingAt(price));
-            add("volumeAt", () -> market.volumeAt(price));
-        }
     }
 
     private void addTrades(DropMarket market) {
@@ -81,7 +78,7 @@ final class Picture {
         add("failedCommand", market::failedCommand);
     }
 
-    /** Up to the first index that is refused, as each call is one of the 512 that an object is promised for. */
+    /** Up to the first index that is refused. */
     static String line(DropMarket market) {
         StringBuilder line = new StringBuilder();
         String sign = signAt(market, 0);

@@ -37,8 +37,8 @@ public final class PoolTest {
     }
 
     private static void noPoolPrice(String what, DropMarket market) {
-        Check.refused("P41 " + what, market, NONE, market::poolPrice);
-        Check.refused("P42 " + what, market, NONE, market::poolPriceBySums);
+        Check.throwing("P41 " + what, NONE, market::poolPrice);
+        Check.throwing("P42 " + what, NONE, market::poolPriceBySums);
         Check.due("P48 " + what, true, market.isConsistent());
     }
 
@@ -178,7 +178,7 @@ public final class PoolTest {
         market.placeBuy(0, 10, 5);
         noPoolPrice("with one side", market);
         market.placeSellFor(1, 11, 5, 7);
-        noPoolPrice("with prices that do not meet", market);
+        Check.unchanged("P41 and P42", market, () -> noPoolPrice("with prices that do not meet", market));
         market.openPool();
         Check.due("P12 volume 0", 0, market.closePool());
         Check.due("P12 cancels with volume 0", 0, market.orderCount());
@@ -204,9 +204,11 @@ public final class PoolTest {
         for (int[] pair : due) {
             Check.due("P43 volumeAt " + pair[0], pair[1], market.volumeAt(pair[0]));
         }
-        for (int price : new int[] {0, -1, 100, Integer.MIN_VALUE, Integer.MAX_VALUE}) {
-            Check.refused("P43 at " + price, market, IllegalArgumentException.class, () -> market.volumeAt(price));
-        }
+        Check.unchanged("P43 volumeAt", market, () -> {
+            for (int price : new int[] {0, -1, 100, Integer.MIN_VALUE, Integer.MAX_VALUE}) {
+                Check.throwing("P43 at " + price, IllegalArgumentException.class, () -> market.volumeAt(price));
+            }
+        });
         market.closePool();
         market.placeBuy(0, 30, 10);
         market.placeSell(0, 40, 10);

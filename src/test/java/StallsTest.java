@@ -31,9 +31,11 @@ public final class StallsTest {
     private static void addingStalls() {
         DropMarket market = new DropMarket();
         int[][] wrong = {{-1, 0}, {10000, 0}, {0, -1}, {0, 1000}, {Integer.MIN_VALUE, 5}, {5, Integer.MAX_VALUE}};
-        for (int[] pair : wrong) {
-            Check.refused("P2 addStall", market, RANGE, () -> market.addStall(pair[0], pair[1]));
-        }
+        Check.unchanged("P2 addStall", market, () -> {
+            for (int[] pair : wrong) {
+                Check.throwing("P2 addStall", RANGE, () -> market.addStall(pair[0], pair[1]));
+            }
+        });
         Check.due("P2 least numbers", 0, market.addStall(0, 0));
         Check.due("P2 greatest numbers", 1, market.addStall(9999, 999));
         for (int stall = 2; stall < 6; stall++) {
@@ -74,12 +76,14 @@ public final class StallsTest {
         DropMarket market = new DropMarket();
         market.addStall(5, 5);
         market.addStall(6, 6);
-        for (int stall : new int[] {-1, 2, 5, 6, Integer.MIN_VALUE, Integer.MAX_VALUE}) {
-            Check.refused("P14 moneyOf " + stall, market, NO_STALL, () -> market.moneyOf(stall));
-            Check.refused("P15 dropsOf " + stall, market, NO_STALL, () -> market.dropsOf(stall));
-            Check.refused("P16 freeMoneyOf " + stall, market, NO_STALL, () -> market.freeMoneyOf(stall));
-            Check.refused("P17 freeDropsOf " + stall, market, NO_STALL, () -> market.freeDropsOf(stall));
-        }
+        Check.unchanged("P14 to P17", market, () -> {
+            for (int stall : new int[] {-1, 2, 5, 6, Integer.MIN_VALUE, Integer.MAX_VALUE}) {
+                Check.throwing("P14 moneyOf " + stall, NO_STALL, () -> market.moneyOf(stall));
+                Check.throwing("P15 dropsOf " + stall, NO_STALL, () -> market.dropsOf(stall));
+                Check.throwing("P16 freeMoneyOf " + stall, NO_STALL, () -> market.freeMoneyOf(stall));
+                Check.throwing("P17 freeDropsOf " + stall, NO_STALL, () -> market.freeDropsOf(stall));
+            }
+        });
         Check.due("P14 the last stall", 6, market.moneyOf(1));
     }
 
@@ -110,9 +114,11 @@ public final class StallsTest {
         for (int rank = 0; rank < order.length; rank++) {
             Check.due("P20 stallByMoney " + rank, order[rank], market.stallByMoney(rank));
         }
-        for (int rank : new int[] {-1, 5, 6, Integer.MIN_VALUE, Integer.MAX_VALUE}) {
-            Check.refused("P20 stallByMoney " + rank, market, noRank, () -> market.stallByMoney(rank));
-        }
+        Check.unchanged("P20 stallByMoney", market, () -> {
+            for (int rank : new int[] {-1, 5, 6, Integer.MIN_VALUE, Integer.MAX_VALUE}) {
+                Check.throwing("P20 stallByMoney " + rank, noRank, () -> market.stallByMoney(rank));
+            }
+        });
         market.placeSell(4, 50, 5);
         market.takeBuy(3, 50, 5);
         Check.due("P20 after a trade", 3, market.stallByMoney(0));

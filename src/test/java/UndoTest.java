@@ -1,9 +1,26 @@
-import java.util.ArrayList;
 import java.util.List;
+import java.util.function.Consumer;
 
 /** Promises 53 to 55: undo and snapshots. */
 public final class UndoTest {
     private static final Class<IllegalStateException> STATE = IllegalStateException.class;
+    private static final List<Consumer<DropMarket>> MODIFICATIONS = List.of(
+            market -> market.addStall(7, 8),
+            market -> market.placeBuy(0, 10, 5),
+            market -> market.placeSell(1, 9, 3),
+            market -> market.placeBuyFor(1, 12, 2, 2),
+            market -> market.placeSellFor(0, 30, 6, 9),
+            market -> market.takeBuy(1, 30, 1),
+            market -> market.takeSell(1, 12, 1),
+            market -> market.takeSell(1, 99, 1),
+            market -> market.cancel(0),
+            market -> market.pass(1),
+            market -> market.openPool(),
+            market -> market.placeBuy(0, 40, 20),
+            market -> market.pass(1),
+            market -> market.closePool(),
+            market -> Markets.executed(market, "open;buy 0 10 9;sell 1 10 8;close;pass 1"));
+    private static final int COUNT = MODIFICATIONS.size();
 
     public static void main(String[] args) {
         undoOfEachModification();
@@ -29,60 +46,42 @@ public final class UndoTest {
         }
     }
 
-    private static List<Runnable> modifications(DropMarket market) {
-        List<Runnable> all = new ArrayList<>();
-        all.add(() -> market.addStall(7, 8));
-        all.add(() -> market.placeBuy(0, 10, 5));
-        all.add(() -> market.placeSell(1, 9, 3));
-        all.add(() -> market.placeBuyFor(1, 12, 2, 2));
-        all.add(() -> market.placeSellFor(0, 30, 6, 9));
-        all.add(() -> market.takeBuy(1, 30, 1));
-        all.add(() -> market.takeSell(1, 12, 1));
-        all.add(() -> market.takeSell(1, 99, 1));
-        all.add(() -> market.cancel(0));
-        all.add(() -> market.pass(1));
-        all.add(() -> market.openPool());
-        all.add(() -> market.placeBuy(0, 40, 20));
-        all.add(() -> market.pass(1));
-        all.add(() -> market.closePool());
-        all.add(() -> {
-            type(market, "open;buy 0 10 9;sell 1 10 8;close;pass 1");
-            market.execute();
-        });
-        return all;
+    /** The modifications from one index up to another, which each change what those before them left. */
+    private static void modify(DropMarket market, int from, int to) {
+        MODIFICATIONS.subList(from, to).forEach(modification -> modification.accept(market));
     }
 
     private static void undoOfEachModification() {
-        DropMarket market = rich();
-        Check.due("P53 two stalls", 1, market.undo());
-        Check.due("P53 one stall", 0, market.undo());
-        Check.refused("P53 none is left", market, STATE, market::undo);
-        market.addStall(9999, 999);
-        market.addStall(9999, 999);
-        int done = 2;
-        for (Runnable modification : modifications(market)) {
+        DropMarket empty = rich();
+        Check.due("P53 two stalls", 1, empty.undo());
+        Check.due("P53 one stall", 0, empty.undo());
+        Check.refused("P53 none is left", empty, STATE, empty::undo);
+        for (int done = 0; done < COUNT; done++) {
+            DropMarket market = rich();
+            modify(market, 0, done);
             String before = Picture.of(market);
-            modification.run();
+            modify(market, done, done + 1);
             String after = Picture.of(market);
-            Check.due("P53 undo after " + done, Math.min(done, 7), market.undo());
+            Check.due("P53 undo after " + done, Math.min(2 + done, 7), market.undo());
             Check.due("P53 state after " + done, before, Picture.of(market));
-            modification.run();
+            modify(market, done, done + 1);
             Check.due("P53 the same once more after " + done, after, Picture.of(market));
-            done++;
         }
     }
 
     private static void eightModifications() {
+        for (int undone = 1; undone <= 8; undone++) {
+            DropMarket market = rich();
+            modify(market, 0, COUNT);
+            Markets.undo(market, undone - 1);
+            Check.due("P53 undo", 8 - undone, market.undo());
+            DropMarket due = rich();
+            modify(due, 0, COUNT - undone);
+            Check.due("P53 state", Picture.of(due), Picture.of(market));
+        }
         DropMarket market = rich();
-        List<String> pictures = new ArrayList<>();
-        for (Runnable modification : modifications(market)) {
-            pictures.add(Picture.of(market));
-            modification.run();
-        }
-        for (int left = 7; left >= 0; left--) {
-            Check.due("P53 undo", left, market.undo());
-            Check.due("P53 state", pictures.get(pictures.size() - 8 + left), Picture.of(market));
-        }
+        modify(market, 0, COUNT);
+        Markets.undo(market, 8);
         Check.refused("P53 a ninth", market, STATE, market::undo);
     }
 
@@ -175,20 +174,19 @@ public final class UndoTest {
     }
 
     private static void wholeStateComesBack() {
-        DropMarket market = rich();
-        List<String> pictures = new ArrayList<>();
-        List<Runnable> all = modifications(market);
-        for (Runnable modification : all) {
+        for (int done = 0; done < COUNT; done++) {
+            DropMarket market = rich();
+            modify(market, 0, done);
             market.save();
             String saved = Picture.of(market);
-            modification.run();
-            pictures.add(Picture.of(market));
+            modify(market, done, done + 1);
+            String after = Picture.of(market);
             market.pass(60);
             market.addStall(1, 1);
             market.restore();
             Check.due("P55 the state comes back", saved, Picture.of(market));
-            modification.run();
-            Check.due("P55 and goes on", pictures.get(pictures.size() - 1), Picture.of(market));
+            modify(market, done, done + 1);
+            Check.due("P55 and goes on", after, Picture.of(market));
         }
     }
 }
